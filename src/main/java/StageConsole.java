@@ -512,7 +512,7 @@ public final class StageConsole {
     private int fadingChannels() {
         int count = 0;
         for (int channel = 0; channel < CHANNELS; channel++) {
-            if (channels[channel].isFading) {
+            if (channels[channel].fadeTicksLeft() > 0) {
                 count++;
             }
         }
@@ -712,18 +712,19 @@ public final class StageConsole {
 
     private static final class Channel {
         int cueLevel = 0;
-        boolean isFading = false;
-        private int fadeFrom = 0;
-        private int fadeTo = 0;
+        // A fade goes on as long as not all of its ticks are done.
         private int fadeTicks = 0;
         private int fadeTicksDone = 0;
+        private int fadeFrom = 0;
+        private int fadeTo = 0;
         private char fadeCurve = CURVE_LINEAR;
         boolean isLatest = false;
         int source = SOURCE_NONE;
         int parkedAt = NO_LEVEL;
 
         void follow(int tracked, int ticks, char curve) {
-            isFading = false;
+            fadeTicks = 0;
+            fadeTicksDone = 0;
             if (cueLevel == tracked) {
                 return;
             }
@@ -732,32 +733,29 @@ public final class StageConsole {
                 cueLevel = tracked;
                 return;
             }
-            isFading = true;
+            fadeTicks = ticks;
             fadeFrom = cueLevel;
             fadeTo = tracked;
-            fadeTicks = ticks;
-            fadeTicksDone = 0;
             fadeCurve = curve;
         }
 
         int fadeTicksLeft() {
-            return isFading ? fadeTicks - fadeTicksDone : 0;
+            return fadeTicks - fadeTicksDone;
         }
 
         void fadeOneTick() {
-            if (!isFading) {
+            if (fadeTicksDone >= fadeTicks) {
                 return;
             }
             fadeTicksDone++;
-            if (fadeTicksDone >= fadeTicks) {
-                cueLevel = fadeTo;
-                isFading = false;
-            } else {
+            if (fadeTicksDone < fadeTicks) {
                 cueLevel = fadeFrom + fadedPart(fadeTo - fadeFrom, fadeTicksDone, fadeTicks);
+            } else {
+                cueLevel = fadeTo;
             }
         }
 
-        // Java's division rounds toward 0, as the document wants it for falling fades too; t is above n here.
+        // Java's division rounds toward 0, as the document wants it for falling fades too; t is above n, so never 0.
         private int fadedPart(int difference, int n, int t) {
             switch (fadeCurve) {
                 case CURVE_SQUARE:

@@ -12,9 +12,16 @@ final class Check {
         try {
             got = call.answer();
         } catch (RuntimeException e) {
-            got = e.getClass();
+            got = thrown(e);
         }
         same(what, due, got);
+    }
+
+    // The program must throw by itself: what a list or the machine throws for it is told apart here.
+    static Object thrown(Throwable e) {
+        StackTraceElement[] frames = e.getStackTrace();
+        boolean isOwn = frames.length > 0 && frames[0].getClassName().equals("StageConsole");
+        return isOwn ? e.getClass() : e + " not thrown by StageConsole";
     }
 
     // The class must be the very one that is due: an index that the machine refuses has a class below it.

@@ -100,6 +100,9 @@ final class EffectTests {
         check.is("first member", 0, () -> x.effectOn(0, 1));
         check.is("second member", 30, () -> x.effectOn(0, 4));
         check.is("third member", 60, () -> x.effectOn(0, 11));
+        check.is("second member's level", 30, () -> x.level(4));
+        check.is("third member's level", 60, () -> x.level(11));
+        check.is("third member's level alone", 60, () -> x.levelAlone(11));
         x.pass(5);
         check.is("third member around", 10, () -> x.effectOn(0, 11));
         x.setMember(0, 1, false);

@@ -64,7 +64,7 @@ final class FaceTests {
             }
         }
         check.same("public methods", due, got);
-        check.same("the class is public and final", Modifier.PUBLIC | Modifier.FINAL, StageConsole.class.getModifiers());
+        check.same("public and final", Modifier.PUBLIC | Modifier.FINAL, StageConsole.class.getModifiers());
         check.same("constructors", 1, StageConsole.class.getDeclaredConstructors().length);
         for (Constructor<?> constructor : StageConsole.class.getDeclaredConstructors()) {
             check.same("public constructor", "public StageConsole()", constructor.toString());

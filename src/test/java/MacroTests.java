@@ -14,7 +14,7 @@ final class MacroTests {
         usesTheConsole(check);
     }
 
-    // Letter, first, second and fault of a step on a console where cue 5 is the only one and played, and group 0 is there.
+    // Letter, first, second and fault of a step, where cue 5 is the only one and played, and group 0 is the only one.
     private static final int[][] FAULTS = {
         {'g', 5, 5, 'e'}, {'b', 5, 5, 'e'},
         {'t', 5, -1, 'n'}, {'t', 4, 5, 'e'}, {'t', -1, 5, 'e'}, {'t', 100, 5, 'e'},

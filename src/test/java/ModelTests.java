@@ -108,7 +108,7 @@ final class ModelTests {
             Method method = console.getClass().getMethod(name, types);
             return method.invoke(console, arguments);
         } catch (InvocationTargetException e) {
-            return e.getCause().getClass();
+            return console instanceof Model ? e.getCause().getClass() : Check.thrown(e.getCause());
         } catch (ReflectiveOperationException e) {
             throw new IllegalStateException(e);
         }

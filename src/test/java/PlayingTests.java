@@ -67,6 +67,13 @@ final class PlayingTests {
         x.pass(5);
         check.is("goTo when all is there", 0, () -> x.goTo(3));
         check.is("played again", 3, () -> x.currentCue());
+        x.addCue(4, 1, 'l');
+        x.setChange(4, 8, 1);
+        check.is("a fade of one tick", 1, () -> x.goTo(4));
+        x.setBlock(4, true);
+        check.is("a block fades all else to 0", 4, () -> x.goTo(4));
+        x.pass(1);
+        check.is("all there after a tick", 0, () -> x.goTo(4));
     }
 
     private static void passing(Check check) {

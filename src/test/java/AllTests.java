@@ -10,6 +10,13 @@ public final class AllTests {
         LevelTests.run(check);
         MacroTests.run(check);
         ModelTests.run(check);
+        CueEdges.run(check);
+        PlayingEdges.run(check);
+        GroupEdges.run(check);
+        EffectEdges.run(check);
+        LevelEdges.run(check);
+        MacroEdges.run(check);
+        ObjectEdges.run(check);
         if (!check.tell()) {
             System.exit(1);
         }

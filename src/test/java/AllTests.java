@@ -17,6 +17,7 @@ public final class AllTests {
         LevelEdges.run(check);
         MacroEdges.run(check);
         ObjectEdges.run(check);
+        ReadmeTests.run(check);
         if (!check.tell()) {
             System.exit(1);
         }

@@ -9,7 +9,7 @@ import java.util.TreeSet;
 
 /** Promise 1, and the members that the document and LANGUAGE.md allow. */
 final class FaceTests {
-    private static final String[] FACE = {
+    static final String[] FACE = {
         "int addCue(int,int,char) IllegalArgumentException UnsupportedOperationException IllegalStateException",
         "int removeCue(int) NoSuchElementException",
         "int setChange(int,int,int) NoSuchElementException IndexOutOfBoundsException IllegalArgumentException",
